@@ -360,7 +360,7 @@ public final class SparseHall {
         if (sheet == null) {
             throw new IndexOutOfBoundsException();
         }
-        if (!sheet.isSquare() || !sheet.isExact()) {
+        if (!sheet.isSquare() || !sheet.isSmallEnough()) {
             throw new UnsupportedOperationException();
         }
         equations.findDeterminant(sheet);
@@ -376,7 +376,7 @@ public final class SparseHall {
         if (sheet == null) {
             throw new IndexOutOfBoundsException();
         }
-        if (!sheet.isSquare() || !sheet.isExact()) {
+        if (!sheet.isSquare() || !sheet.isSmallEnough()) {
             throw new UnsupportedOperationException();
         }
         equations.findDeterminant(sheet);
@@ -406,7 +406,7 @@ public final class SparseHall {
         if (sheet == null) {
             throw new IndexOutOfBoundsException();
         }
-        if (!sheet.isExact()) {
+        if (!sheet.isSmallEnough()) {
             throw new UnsupportedOperationException();
         }
         return equations.findRank(sheet);
@@ -420,7 +420,7 @@ public final class SparseHall {
         if (sheet == null || !sheet.hasColumn(column)) {
             throw new IndexOutOfBoundsException();
         }
-        if (!sheet.isExact()) {
+        if (!sheet.isSmallEnough()) {
             throw new UnsupportedOperationException();
         }
         if (!equations.solveDependence(sheet)) {
@@ -444,7 +444,7 @@ public final class SparseHall {
         if (way != 's' && way != 'l' && way != 'n') {
             throw new IllegalArgumentException();
         }
-        if (!sheet.isExact() || !equations.solve(sheet, way)) {
+        if (!sheet.isSmallEnough() || !equations.solve(sheet, way)) {
             throw new UnsupportedOperationException();
         }
         equations.tellFraction(column, isUpper);
@@ -477,7 +477,7 @@ public final class SparseHall {
         if (sheet == null || !sheet.hasRow(row) || !sheet.hasColumn(column)) {
             throw new IndexOutOfBoundsException();
         }
-        if (!sheet.isSquare() || !sheet.isExact() || !equations.solveUnit(sheet, column)) {
+        if (!sheet.isSquare() || !sheet.isSmallEnough() || !equations.solveUnit(sheet, column)) {
             throw new UnsupportedOperationException();
         }
         equations.tellFraction(row, isUpper);
@@ -497,7 +497,7 @@ public final class SparseHall {
         if (!isWithin(number, -MOST_SHIFT, MOST_SHIFT)) {
             throw new IllegalArgumentException();
         }
-        if (!sheet.isOwnTransposed() || !sheet.isExact()) {
+        if (!sheet.isOwnTransposed() || !sheet.isSmallEnough()) {
             throw new UnsupportedOperationException();
         }
         spectrum.load(sheet);
@@ -511,7 +511,7 @@ public final class SparseHall {
         if (sheet == null || !sheet.hasRow(index)) {
             throw new IndexOutOfBoundsException();
         }
-        if (!sheet.isOwnTransposed() || !sheet.isExact()) {
+        if (!sheet.isOwnTransposed() || !sheet.isSmallEnough()) {
             throw new UnsupportedOperationException();
         }
         spectrum.load(sheet);
@@ -524,7 +524,7 @@ public final class SparseHall {
         if (sheet == null) {
             throw new IndexOutOfBoundsException();
         }
-        if (!sheet.isOwnTransposed() || !sheet.isExact() || !hasAllAboveNothing(sheet)) {
+        if (!sheet.isOwnTransposed() || !sheet.isSmallEnough() || !hasAllAboveNothing(sheet)) {
             throw new UnsupportedOperationException();
         }
         return equations.countPowers(sheet);
@@ -640,7 +640,7 @@ public final class SparseHall {
     public boolean isSound() {
         for (int number = 0; number < MOST_MATRICES; number++) {
             Sheet sheet = sheets[number];
-            if (sheet == null || !sheet.isExact()) {
+            if (sheet == null || !sheet.isSmallEnough()) {
                 continue;
             }
             if (!isSquareSound(sheet) || !isLeastSound(sheet) || !isVectorSound(sheet)) {
@@ -794,7 +794,7 @@ public final class SparseHall {
             return rows == columns;
         }
 
-        boolean isExact() {
+        boolean isSmallEnough() {
             return rows <= MOST_EXACT && columns <= MOST_EXACT;
         }
 
@@ -1618,6 +1618,7 @@ public final class SparseHall {
         private static final int DIGITS = 9;
         private static final long BASE = 1000000000L;
         private static final int MOST_HALVINGS = 1000;
+        private static final long LOWEST_LONG = -9223372036854775808L;
 
         private final long[] parts = new long[PARTS];
         private boolean isBelow = false;
@@ -1763,7 +1764,7 @@ public final class SparseHall {
                 return false;
             }
             long value = unsignedLong();
-            return value >= 0 || isBelow && value == Long.MIN_VALUE;
+            return value >= 0 || isBelow && value == LOWEST_LONG;
         }
 
         /** Up to 10^19 - 1 this wraps round at most once, so that its sign tells whether it did. */
@@ -1905,13 +1906,13 @@ public final class SparseHall {
             }
         }
 
-        private void size(int newRows, int newColumns) {
+        private void setSize(int newRows, int newColumns) {
             rows = Math.max(0, Math.min(newRows, MOST_EXACT));
             columns = Math.max(0, Math.min(newColumns, MOST_EXACT));
         }
 
         private void loadPlain(Sheet sheet) {
-            size(sheet.rows, sheet.columns);
+            setSize(sheet.rows, sheet.columns);
             for (int row = 0; row < rows; row++) {
                 for (int column = 0; column < columns; column++) {
                     given[row][column] = sheet.cells[row][column];
@@ -1922,7 +1923,7 @@ public final class SparseHall {
 
         /** What least squares leave is at right angles to all columns. */
         private void loadColumns(Sheet sheet) {
-            size(sheet.columns, sheet.columns);
+            setSize(sheet.columns, sheet.columns);
             for (int one = 0; one < rows; one++) {
                 for (int other = 0; other <= columns; other++) {
                     long sum = 0;
@@ -1937,7 +1938,7 @@ public final class SparseHall {
 
         /** The least answer is a sum of rows, so that it is asked how much of each row. */
         private void loadRows(Sheet sheet) {
-            size(sheet.rows, sheet.rows);
+            setSize(sheet.rows, sheet.rows);
             for (int one = 0; one < rows; one++) {
                 for (int other = 0; other < columns; other++) {
                     long sum = 0;
@@ -2034,18 +2035,33 @@ public final class SparseHall {
 
         /** Modulo a prime the rank can only be less, so that the greatest one is that of fractions. */
         int findRank(Sheet sheet) {
+            int end = Math.min(sheet.rows, sheet.columns);
             int most = 0;
-            for (int at = 0; at < RANK_PRIMES; at++) {
+            for (int at = 0; at < RANK_PRIMES && most < end; at++) {
                 table.load(sheet, Table.GREAT_PRIMES[at]);
                 most = Math.max(most, table.findRank());
             }
             return most;
         }
 
-        /** Looks for the first column that is a sum of those ahead, and answers with which factors. */
+        /** Answers with which factors the first column that is a sum of those ahead is one, if any is. */
         boolean solveDependence(Sheet sheet) {
+            findDependent(sheet);
+            if (dependent < 0 || dependent >= sheet.columns) {
+                return false;
+            }
+            loadDependence(sheet);
+            if (!solveGiven()) {
+                return false;
+            }
+            findVectorDivisor();
+            return true;
+        }
+
+        /** Modulo a prime a column can only be a sum of those ahead too early. */
+        private void findDependent(Sheet sheet) {
             dependent = -1;
-            for (int at = 0; at < RANK_PRIMES; at++) {
+            for (int at = 0; at < RANK_PRIMES && dependent < sheet.columns; at++) {
                 table.load(sheet, Table.GREAT_PRIMES[at]);
                 table.findRank();
                 if (table.independent > dependent) {
@@ -2055,30 +2071,25 @@ public final class SparseHall {
                     }
                 }
             }
-            if (dependent >= sheet.columns) {
-                return false;
-            }
-            size(dependent, dependent);
-            for (int row = 0; row < rows; row++) {
-                int[] cells = sheet.cells[chosenRows[row]];
-                for (int column = 0; column < columns; column++) {
-                    given[row][column] = cells[column];
-                }
-                given[row][columns] = -cells[columns];
-            }
-            return isVectorSolved();
         }
 
-        private boolean isVectorSolved() {
-            if (!solveGiven()) {
-                return false;
+        /** As many rows as there are columns ahead, in which these are independent, are enough. */
+        private void loadDependence(Sheet sheet) {
+            setSize(dependent, dependent);
+            for (int row = 0; row < rows; row++) {
+                for (int column = 0; column < columns; column++) {
+                    given[row][column] = sheet.cells[chosenRows[row]][column];
+                }
+                given[row][columns] = -sheet.cells[chosenRows[row]][columns];
             }
+        }
+
+        private void findVectorDivisor() {
             beginDivisor();
             for (int column = 0; column < columns; column++) {
                 joiner.restore(residues[column], used);
                 divisor.becomeDivisor(used);
             }
-            return true;
         }
 
         /** Tells a number of the vector behind solveDependence. */
@@ -2326,7 +2337,8 @@ public final class SparseHall {
     /** Patterns by levels, aggregates, and paths by other sums. */
     private static final class Patterns {
         private static final int NO_LEVEL = 1000;
-        private static final int UNREACHED = Integer.MIN_VALUE;
+        /** Far below each sum and each entry. */
+        private static final int UNREACHED = -1000000;
 
         private final int[][] levels = new int[MOST_SIDE][MOST_SIDE];
         private final int[] gathered = new int[MOST_SIDE];

@@ -110,7 +110,7 @@ public final class CompareTest {
     }
 
     private void buildAny(int[][] a) {
-        int kind = random.nextInt(6);
+        int kind = random.nextInt(7);
         int density = 1 + random.nextInt(10);
         for (int i = 0; i < a.length; i++) {
             for (int j = 0; j < a[0].length; j++) {
@@ -130,6 +130,37 @@ public final class CompareTest {
         }
         if (kind == 5) {
             buildOfLowRank(a, 1 + random.nextInt(Math.min(a.length, a[0].length)));
+        } else if (kind == 6) {
+            buildOfGreatPrimes(a);
+        }
+    }
+
+    /**
+     * Squares of four rows whose determinants are the primes with which the class reckons, so that
+     * some of these are of no use; columns behind them are sums of those ahead.
+     */
+    private void buildOfGreatPrimes(int[][] a) {
+        int base = 993 + random.nextInt(7);
+        int most = Math.min(a.length, a[0].length);
+        int end = 0;
+        for (int from = 0; from + 4 <= most; from += 4) {
+            long digits = new long[] {2147483647L, 2147483629L, 2147483587L, 2147483579L}[random.nextInt(4)];
+            for (int k = 3; k >= 0; k--) {
+                a[from][from + k] = (int) (digits % base);
+                digits /= base;
+                if (k > 0) {
+                    a[from + k][from + k] = base;
+                    a[from + k][from + k - 1] = -1;
+                }
+            }
+            end = from + 4;
+        }
+        for (int j = end; j < a[0].length && end > 0; j++) {
+            int one = random.nextInt(end);
+            int other = random.nextInt(end);
+            for (int i = 0; i < end; i++) {
+                a[i][j] = one == other ? a[i][one] : (a[i][one] == 0 || a[i][other] == 0 ? a[i][one] - a[i][other] : 0);
+            }
         }
     }
 
