@@ -1668,12 +1668,6 @@ public final class SparseHall {
             }
         }
 
-        private void copyFrom(Amount other) {
-            for (int at = 0; at < PARTS; at++) {
-                parts[at] = other.parts[at];
-            }
-        }
-
         private boolean isLessThan(Amount other) {
             for (int at = PARTS - 1; at >= 0; at--) {
                 if (parts[at] != other.parts[at]) {
@@ -1692,12 +1686,11 @@ public final class SparseHall {
             }
         }
 
-        /** Becomes the greatest common divisor of both, signs aside; the other one is used up. */
+        /**
+         * Becomes the greatest common divisor of itself, which is not 0, and another one, signs aside;
+         * the other one is used up. Each turn takes at least one binary digit off.
+         */
         void becomeDivisor(Amount other) {
-            if (isNothing()) {
-                copyFrom(other);
-                return;
-            }
             int twos = 0;
             for (; twos < MOST_HALVINGS && isEven() && other.isEven(); twos++) {
                 halve();

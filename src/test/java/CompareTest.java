@@ -229,7 +229,7 @@ public final class CompareTest {
                 chosen[i] = random.nextBoolean();
             } else if (types[i] == char.class) {
                 String kinds = name.equals("order") ? "ndws" : name.equals("best") ? "+ma" : "sln";
-                chosen[i] = random.nextInt(25) == 0 ? (char) random.nextInt(200) : kinds.charAt(random.nextInt(kinds.length()));
+                chosen[i] = random.nextInt(25) == 0 ? (char) random.nextInt(random.nextBoolean() ? 200 : 65536) : kinds.charAt(random.nextInt(kinds.length()));
             } else if (i == 0) {
                 chosen[i] = name.equals("matrix") ? within(18, 3) : matrix;
             } else {
@@ -239,6 +239,11 @@ public final class CompareTest {
         if (name.equals("exchange") && !(Boolean) chosen[1]) {
             chosen[2] = within(columns, 12);
             chosen[3] = within(columns, 12);
+        }
+        int place = random.nextInt(60);
+        if (place < types.length && types[place] == int.class) {
+            int[] far = {Integer.MIN_VALUE, Integer.MAX_VALUE, Integer.MIN_VALUE + 1, 16, 17, 31, 32, 64, 256, -999, 65536};
+            chosen[place] = far[random.nextInt(far.length)];
         }
         return chosen;
     }

@@ -221,6 +221,27 @@ public final class PromiseTest {
         return x;
     }
 
+    /** The greatest square matrix: a ring of 16, with ones in the diagonal. */
+    private static SparseHall ring() {
+        SparseHall x = eye(16);
+        for (int i = 0; i < 16; i++) {
+            int next = (i + 1) % 16;
+            x.set(0, i, next, 1);
+            x.set(0, next, i, 1);
+        }
+        return x;
+    }
+
+    /** The greatest matrix for exact numbers, with 2 in the diagonal and -1 beside it. */
+    private static SparseHall band() {
+        SparseHall x = diagonal(2, 2, 2, 2, 2, 2, 2, 2, 2, 2);
+        for (int i = 0; i < 9; i++) {
+            x.set(0, i, i + 1, -1);
+            x.set(0, i + 1, i, -1);
+        }
+        return x;
+    }
+
     // ---- matrices
 
     private static void newObject() {
@@ -298,6 +319,9 @@ public final class PromiseTest {
     }
 
     private static void exchange() {
+        SparseHall great = ring();
+        due(great.exchange(0, true, 15, 0), 6);
+        due(great.exchange(0, false, 0, 15), 6);
         SparseHall x = of(row(1, 0, 3), row(0, 0, 5));
         rights(x, 8, 9);
         due(x.exchange(0, true, 0, 1), 3);
@@ -326,6 +350,7 @@ public final class PromiseTest {
     }
 
     private static void entries() {
+        due(ring().entries(0), 48);
         SparseHall x = of(row(0, 2, 0), row(-4, 0, 999));
         due(x.entries(0), 3);
         x.set(0, 0, 1, 0);
@@ -337,6 +362,11 @@ public final class PromiseTest {
     }
 
     private static void transpose() {
+        SparseHall great = new SparseHall();
+        great.matrix(16, 15);
+        great.set(0, 15, 14, 5);
+        great.transpose(0);
+        due(great.entry(1, 14, 15), 5);
         SparseHall x = of(row(1, 2, 3), row(4, 5, 6));
         rights(x, 7, 8);
         due(x.transpose(0), 1);
@@ -362,6 +392,11 @@ public final class PromiseTest {
     }
 
     private static void multiply() {
+        SparseHall great = ring();
+        due(great.multiply(0, 0), 1);
+        due(great.entry(1, 15, 15), 3);
+        due(great.entry(1, 15, 1), 1);
+        due(great.entry(1, 15, 2), 0);
         SparseHall x = of(row(1, 2), row(0, 3), row(4, 0));
         put(x, row(5, 0, 1), row(0, 6, -1));
         x.right(0, 0, 5);
@@ -396,6 +431,7 @@ public final class PromiseTest {
     }
 
     private static void foretold() {
+        due(ring().foretold(0, 0), 80);
         SparseHall x = of(row(1, 1), row(0, 0), row(0, 2));
         put(x, row(1, 0, 1), row(-1, 3, 0));
         due(x.foretold(0, 1), 5);
@@ -412,6 +448,7 @@ public final class PromiseTest {
     }
 
     private static void isSymmetric() {
+        due(ring().isSymmetric(0), true);
         due(of(row(1, 2, 0), row(2, 0, -3), row(0, -3, 5)).isSymmetric(0), true);
         due(of(row(1, 2, 0), row(2, 0, -3), row(0, 3, 5)).isSymmetric(0), false);
         due(of(row(0, 1), row(0, 0)).isSymmetric(0), false);
@@ -424,6 +461,19 @@ public final class PromiseTest {
     // ---- matchings
 
     private static void matched() {
+        // each row needs the column of the one before, so that the last one turns all of them
+        SparseHall turns = new SparseHall();
+        turns.matrix(16, 16);
+        for (int i = 0; i < 15; i++) {
+            turns.set(0, i, i, 1);
+            turns.set(0, i, i + 1, 1);
+        }
+        turns.set(0, 15, 0, 1);
+        due(turns.matched(0), 16);
+        turns.exchange(0, true, 0, 15);
+        turns.exchange(0, true, 3, 9);
+        due(turns.matched(0), 16);
+        due(ring().matched(0), 16);
         due(of(row(1, 1, 0), row(1, 0, 0), row(0, 1, 0)).matched(0), 2);
         due(of(row(1, 1, 1), row(1, 0, 0), row(0, 1, 0)).matched(0), 3);
         due(of(row(1, 1, 1, 1)).matched(0), 1);
@@ -444,6 +494,14 @@ public final class PromiseTest {
     }
 
     private static void least() {
+        SparseHall great = diagonal(9, 8, 7, 6, 5, 4, 3, 2, 9, 9, 9, 9, 9, 9, 9, 2);
+        due(great.least(0), 2);
+        great.set(0, 15, 7, -3);
+        due(great.least(0), 2);
+        great.set(0, 7, 15, 4);
+        due(great.least(0), 3);
+        due(of(row(1, 0), row(0, 999)).least(0), 1);
+        due(of(row(998)).least(0), 998);
         due(of(row(5, 9), row(8, -7)).least(0), 8);
         due(of(row(5, 0), row(8, -7)).least(0), 5);
         due(of(row(-999, 0), row(0, 999)).least(0), 999);
@@ -455,6 +513,11 @@ public final class PromiseTest {
     }
 
     private static void blocks() {
+        due(ring().blocks(0), 1);
+        SparseHall less = of(row(1, 1, 0), row(1, 1, 0), row(0, 0, 1));
+        due(less.blocks(0), 2);
+        less.set(0, 1, 0, 0);
+        due(less.blocks(0), 3);
         due(eye(16).blocks(0), 16);
         due(of(row(1, 1, 0), row(0, 1, 1), row(1, 0, 1)).blocks(0), 1);
         due(of(row(1, 1, 0), row(0, 1, 1), row(0, 0, 1)).blocks(0), 3);
@@ -466,6 +529,7 @@ public final class PromiseTest {
     }
 
     private static void blockOf() {
+        due(ring().blockOf(0, 15), 16);
         SparseHall x = of(row(0, 2, 1), row(1, 0, 3), row(0, 1, 1));
         due(x.blockOf(0, 0), 2);
         due(x.blockOf(0, 1), 1);
@@ -485,6 +549,26 @@ public final class PromiseTest {
     // ---- orders and trees
 
     private static void order() {
+        SparseHall again = joined(4, 0, 1, 0, 2, 0, 3);
+        again.order(0, 'w');
+        due(again.order(0, 'n'), 0);
+        due(told(again, 4), "0 1 2 3");
+        // when 0 is taken, 1 and 2 are joined by it, so that 3 is joined with fewer than 1
+        SparseHall joining = joined(6, 0, 1, 0, 2, 1, 3, 1, 4, 2, 4, 2, 5, 3, 4, 3, 5);
+        joining.order(0, 'd');
+        due(told(joining, 6), "0 5 1 2 3 4");
+        // the level that reaches half of the set is the last one: 4, 3, and the rest
+        SparseHall last = joined(5, 4, 3, 3, 0, 3, 1, 3, 2, 0, 1, 1, 2, 0, 2);
+        last.order(0, 's');
+        due(told(last, 5), "0 1 2 3 4");
+        SparseHall great = ring();
+        due(great.order(0, 'd'), 0);
+        due(great.ordered(0, 15), 15);
+        due(great.order(0, 'w'), 8);
+        due(great.ordered(0, 15), 0);
+        // 4 and 12 part the ring; of the way from 3 to 13, 0 is the middle, and of that from 5 to 11, 8
+        due(great.order(0, 's'), 1);
+        due(told(great, 16), "1 2 3 13 14 15 0 5 6 7 9 10 11 8 4 12");
         SparseHall star = joined(5, 0, 1, 0, 2, 0, 3, 0, 4);
         due(told(star, 5), "0 1 2 3 4");
         due(star.order(0, 'd'), 1);
@@ -548,6 +632,7 @@ public final class PromiseTest {
     }
 
     private static void width() {
+        due(ring().width(0), 15);
         SparseHall x = joined(4, 0, 3, 1, 2);
         due(x.width(0), 3);
         x.order(0, 'w');
@@ -560,6 +645,14 @@ public final class PromiseTest {
     }
 
     private static void parent() {
+        // in the order 2 1 0 the first one of those left is 1, and not the lowest index
+        SparseHall back = joined(3, 0, 1, 0, 2, 1, 2);
+        back.order(0, 'w');
+        due(told(back, 3), "2 1 0");
+        due(back.parent(0, 2), 1);
+        due(back.parent(0, 1), 0);
+        due(ring().parent(0, 0), 1);
+        due(ring().parent(0, 15), -1);
         SparseHall x = joined(4, 0, 2, 0, 3, 1, 3);
         due(x.parent(0, 0), 2);
         due(x.parent(0, 1), 3);
@@ -576,6 +669,8 @@ public final class PromiseTest {
     }
 
     private static void countOf() {
+        due(ring().countOf(0, 14), 2);
+        due(ring().countOf(0, 0), 3);
         SparseHall x = joined(4, 0, 1, 0, 2, 0, 3);
         due(x.countOf(0, 0), 4);
         due(x.countOf(0, 1), 3);
@@ -589,6 +684,7 @@ public final class PromiseTest {
     }
 
     private static void path() {
+        due(ring().path(0, 0), 16);
         SparseHall x = joined(4, 0, 2, 0, 3, 1, 3);
         due(x.path(0, 0), 3);
         due(x.path(0, 1), 2);
@@ -604,6 +700,7 @@ public final class PromiseTest {
     }
 
     private static void fill() {
+        due(ring().fill(0), 13);
         SparseHall x = joined(4, 0, 1, 0, 2, 0, 3);
         due(x.fill(0), 3);
         x.order(0, 'd');
@@ -616,6 +713,12 @@ public final class PromiseTest {
     }
 
     private static void supernodes() {
+        due(ring().supernodes(0), 14);
+        SparseHall anew = joined(3, 0, 2, 1, 2);
+        due(anew.supernodes(0), 3);
+        anew.order(0, 'w');
+        due(told(anew, 3), "1 2 0");
+        due(anew.supernodes(0), 2);
         due(eye(3).supernodes(0), 3);
         due(joined(3, 0, 1, 0, 2, 1, 2).supernodes(0), 1);
         due(joined(3, 0, 2, 1, 2).supernodes(0), 3);
@@ -630,6 +733,16 @@ public final class PromiseTest {
     }
 
     private static void memory() {
+        due(ring().memory(0), 13);
+        // 4 beside what the one with 9 hands on is less than 9 beside what the one with 4 hands on
+        due(joined(4, 0, 3, 1, 2, 1, 3, 2, 3).memory(0), 9);
+        due(joined(4, 2, 3, 0, 1, 0, 3, 1, 3).memory(0), 9);
+        // 7 has 16 and hands on 9; 8 has 11 and hands on 1, and goes first
+        due(joined(12, 0, 8, 1, 8, 2, 8, 3, 8, 4, 8, 5, 8, 6, 8, 8, 9, 7, 9, 7, 10, 7, 11).memory(0), 19);
+        SparseHall anew = joined(4, 0, 1, 0, 2, 0, 3);
+        due(anew.memory(0), 18);
+        anew.order(0, 'd');
+        due(anew.memory(0), 6);
         due(eye(3).memory(0), 1);
         due(joined(3, 0, 1, 0, 2, 1, 2).memory(0), 9);
         // 0 and 1 hand on 1 each, and the front of 2 is 1
@@ -644,6 +757,15 @@ public final class PromiseTest {
     }
 
     private static void work() {
+        due(ring().work(0, 4), 131);
+        // 0 and 3 are as urgent: 0 goes first, though 3 would have been the better one
+        due(joined(7, 0, 1, 0, 5, 1, 5, 2, 4, 2, 6, 3, 4, 4, 6, 4, 5).work(0, 2), 27);
+        // one that runs holds its processor
+        due(joined(10, 0, 1).work(0, 2), 7);
+        SparseHall back = joined(10, 0, 9);
+        back.order(0, 'w');
+        due(back.ordered(0, 0), 9);
+        due(back.work(0, 2), 7);
         due(eye(4).work(0, 1), 4);
         due(eye(4).work(0, 3), 2);
         due(eye(4).work(0, 4), 1);
@@ -664,6 +786,7 @@ public final class PromiseTest {
     // ---- exact numbers
 
     private static void determinant() {
+        due(band().determinant(0), 11L);
         due(of(row(1, 2), row(3, 4)).determinant(0), -2L);
         due(of(row(0, 2), row(3, 0)).determinant(0), -6L);
         due(of(row(1, 2), row(2, 4)).determinant(0), 0L);
@@ -698,6 +821,7 @@ public final class PromiseTest {
     }
 
     private static void digits() {
+        due(band().digits(0), 2);
         due(of(row(0)).digits(0), 1);
         due(of(row(-9)).digits(0), 1);
         due(of(row(10)).digits(0), 2);
@@ -742,6 +866,11 @@ public final class PromiseTest {
     }
 
     private static void rank() {
+        due(band().rank(0), 10);
+        SparseHall flat = new SparseHall();
+        flat.matrix(10, 10);
+        flat.set(0, 9, 9, 1);
+        due(flat.rank(0), 1);
         due(of(row(1, 2, 3), row(2, 4, 6)).rank(0), 1);
         due(of(row(1, 2, 3), row(2, 4, 7)).rank(0), 2);
         due(of(row(1, 2), row(2, 4), row(0, 1)).rank(0), 2);
@@ -765,6 +894,16 @@ public final class PromiseTest {
     }
 
     private static void vector() {
+        SparseHall last = new SparseHall();
+        last.matrix(10, 10);
+        for (int i = 0; i < 9; i++) {
+            last.set(0, i + 1, i, 1);
+            last.set(0, i + 1, 9, i - 4);
+        }
+        due(last.vector(0, 9), 1L);
+        due(last.vector(0, 8), -4L);
+        due(last.vector(0, 0), 4L);
+        due(last.vector(0, 4), 0L);
         SparseHall x = of(row(1, 2, 3), row(4, 5, 6), row(7, 8, 9));
         due(x.vector(0, 0), 1L);
         due(x.vector(0, 1), -2L);
@@ -817,6 +956,13 @@ public final class PromiseTest {
     }
 
     private static void answer() {
+        SparseHall full = band();
+        rights(full, 0, 0, 0, 0, 0, 0, 0, 0, 0, 11);
+        for (char way : new char[] {'s', 'l', 'n'}) {
+            due(full.answer(0, way, 9, true), 10L);
+            due(full.answer(0, way, 0, true), 1L);
+            due(full.answer(0, way, 4, false), 1L);
+        }
         SparseHall x = of(row(2, 1), row(1, 3));
         rights(x, 3, -1);
         due(x.answer(0, 's', 0, true), 2L);
@@ -885,6 +1031,9 @@ public final class PromiseTest {
     }
 
     private static void answerModulo() {
+        SparseHall full = band();
+        rights(full, 0, 0, 0, 0, 0, 0, 0, 0, 0, 11);
+        due(full.answerModulo(0, 9, 7), 3);
         SparseHall x = of(row(2, 1), row(1, 3));
         rights(x, 1, -1);
         due(x.answerModulo(0, 0, 7), 5);
@@ -909,6 +1058,8 @@ public final class PromiseTest {
     }
 
     private static void inverse() {
+        due(band().inverse(0, 9, 9, true), 10L);
+        due(band().inverse(0, 9, 0, false), 11L);
         SparseHall x = of(row(1, 2), row(3, 4));
         rights(x, 99, 98);
         due(x.inverse(0, 0, 0, true), -2L);
@@ -936,6 +1087,9 @@ public final class PromiseTest {
     }
 
     private static void above() {
+        due(band().above(0, 0), 10);
+        due(band().above(0, 2), 5);
+        due(band().above(0, 4), 0);
         SparseHall x = of(row(2, 1), row(1, 2));
         due(x.above(0, 0), 2);
         due(x.above(0, 1), 1);
@@ -960,6 +1114,8 @@ public final class PromiseTest {
     }
 
     private static void floor() {
+        due(band().floor(0, 0), 3);
+        due(band().floor(0, 9), 0);
         SparseHall x = of(row(0, 3), row(3, 1));
         due(x.floor(0, 0), 3);
         due(x.floor(0, 1), -3);
@@ -994,6 +1150,11 @@ public final class PromiseTest {
     }
 
     private static void steps() {
+        SparseHall full = band();
+        full.right(0, 9, 1);
+        due(full.steps(0), 10);
+        full.right(0, 0, 1);
+        due(full.steps(0), 5);
         SparseHall x = diagonal(1, 2, 2, 4);
         due(x.steps(0), 0);
         rights(x, 0, 1, 1, 0);
@@ -1026,6 +1187,9 @@ public final class PromiseTest {
     // ---- patterns and paths
 
     private static void kept() {
+        due(ring().kept(0, 0), 48);
+        due(ring().kept(0, 20), 74);
+        due(ring().kept(0, 1), 50);
         SparseHall arrow = joined(4, 0, 1, 0, 2, 0, 3);
         due(arrow.kept(0, 0), 10);
         due(arrow.kept(0, 1), 16);
@@ -1049,6 +1213,11 @@ public final class PromiseTest {
     }
 
     private static void aggregate() {
+        due(ring().aggregate(0, 15), 0);
+        due(ring().aggregate(0, 14), 4);
+        due(ring().aggregate(0, 2), 1);
+        // 1 comes to the aggregate that 0 made
+        due(joined(3, 0, 2, 1, 2).aggregate(0, 1), 0);
         SparseHall x = joined(7, 0, 3, 3, 1, 1, 4, 4, 2, 2, 6);
         // 0 makes one with 3; 1 touches it; 2 makes one with 4 and 6; 5 is alone; 1 comes to that of 3
         due(x.aggregate(0, 0), 0);
@@ -1069,6 +1238,7 @@ public final class PromiseTest {
     }
 
     private static void partsOf() {
+        due(ring().partsOf(0), 1);
         due(joined(6, 0, 5, 5, 1, 2, 3).partsOf(0), 3);
         due(eye(16).partsOf(0), 16);
         due(of(row(0, 1, 0), row(0, 0, 0), row(0, 1, 0)).partsOf(0), 1);
@@ -1078,6 +1248,8 @@ public final class PromiseTest {
     }
 
     private static void best() {
+        due(ring().best(0, 0, 8, 'a'), 8);
+        due(ring().best(0, 15, 3, '+'), 4);
         SparseHall x = of(row(0, 9, 2, 0), row(0, 0, 0, 1), row(0, 3, 0, 0), row(4, 0, 0, 0));
         due(x.best(0, 0, 1, '+'), 5);
         due(x.best(0, 0, 1, 'a'), 1);
@@ -1117,6 +1289,7 @@ public final class PromiseTest {
     }
 
     private static void walks() {
+        due(ring().walks(0, 15, 0, 2), 2L);
         SparseHall x = of(row(5, -1), row(3, 0));
         due(x.walks(0, 0, 0, 1), 1L);
         due(x.walks(0, 1, 1, 1), 0L);
