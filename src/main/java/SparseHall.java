@@ -49,7 +49,7 @@ public final class SparseHall {
     public int set(int matrix, int row, int column, int entry)
             throws IndexOutOfBoundsException, IllegalArgumentException {
         Sheet sheet = sheetAt(matrix);
-        if (sheet == null || !sheet.hasRow(row) || !sheet.hasColumn(column)) {
+        if (!sheet.hasRow(row) || !sheet.hasColumn(column)) {
             throw new IndexOutOfBoundsException();
         }
         if (!isWithin(entry, -MOST_ENTRY, MOST_ENTRY)) {
@@ -63,7 +63,7 @@ public final class SparseHall {
     /** Returns an entry. */
     public int entry(int matrix, int row, int column) throws IndexOutOfBoundsException {
         Sheet sheet = sheetAt(matrix);
-        if (sheet == null || !sheet.hasRow(row) || !sheet.hasColumn(column)) {
+        if (!sheet.hasRow(row) || !sheet.hasColumn(column)) {
             throw new IndexOutOfBoundsException();
         }
         return sheet.cells[row][column];
@@ -73,7 +73,7 @@ public final class SparseHall {
     public int right(int matrix, int row, int number)
             throws IndexOutOfBoundsException, IllegalArgumentException {
         Sheet sheet = sheetAt(matrix);
-        if (sheet == null || !sheet.hasRow(row)) {
+        if (!sheet.hasRow(row)) {
             throw new IndexOutOfBoundsException();
         }
         if (!isWithin(number, -MOST_ENTRY, MOST_ENTRY)) {
@@ -88,9 +88,6 @@ public final class SparseHall {
     public int exchange(int matrix, boolean areRows, int one, int other)
             throws IndexOutOfBoundsException {
         Sheet sheet = sheetAt(matrix);
-        if (sheet == null) {
-            throw new IndexOutOfBoundsException();
-        }
         int end = areRows ? sheet.rows : sheet.columns;
         if (!isWithin(one, 0, end - 1) || !isWithin(other, 0, end - 1)) {
             throw new IndexOutOfBoundsException();
@@ -100,19 +97,12 @@ public final class SparseHall {
 
     /** Returns how many entries are not 0. */
     public int entries(int matrix) throws IndexOutOfBoundsException {
-        Sheet sheet = sheetAt(matrix);
-        if (sheet == null) {
-            throw new IndexOutOfBoundsException();
-        }
-        return sheet.countEntries();
+        return sheetAt(matrix).countEntries();
     }
 
     /** Adds the transposed matrix and returns its number. */
     public int transpose(int matrix) throws IndexOutOfBoundsException, IllegalStateException {
         Sheet sheet = sheetAt(matrix);
-        if (sheet == null) {
-            throw new IndexOutOfBoundsException();
-        }
         if (held >= MOST_MATRICES) {
             throw new IllegalStateException();
         }
@@ -124,9 +114,6 @@ public final class SparseHall {
             throws IndexOutOfBoundsException, UnsupportedOperationException, IllegalStateException {
         Sheet first = sheetAt(matrix);
         Sheet second = sheetAt(other);
-        if (first == null || second == null) {
-            throw new IndexOutOfBoundsException();
-        }
         if (first.columns != second.rows || !hasSmallProduct(first, second)) {
             throw new UnsupportedOperationException();
         }
@@ -141,9 +128,6 @@ public final class SparseHall {
             throws IndexOutOfBoundsException, UnsupportedOperationException {
         Sheet first = sheetAt(matrix);
         Sheet second = sheetAt(other);
-        if (first == null || second == null) {
-            throw new IndexOutOfBoundsException();
-        }
         if (first.columns != second.rows) {
             throw new UnsupportedOperationException();
         }
@@ -152,30 +136,19 @@ public final class SparseHall {
 
     /** Returns whether a matrix is its own transposed one. */
     public boolean isSymmetric(int matrix) throws IndexOutOfBoundsException {
-        Sheet sheet = sheetAt(matrix);
-        if (sheet == null) {
-            throw new IndexOutOfBoundsException();
-        }
-        return sheet.isOwnTransposed();
+        return sheetAt(matrix).isOwnTransposed();
     }
 
     // ---- matchings
 
     /** Returns how many entries the greatest matching has. */
     public int matched(int matrix) throws IndexOutOfBoundsException {
-        Sheet sheet = sheetAt(matrix);
-        if (sheet == null) {
-            throw new IndexOutOfBoundsException();
-        }
-        return matching.match(sheet, 1);
+        return matching.match(sheetAt(matrix), 1);
     }
 
     /** Returns how great the least amount of an entry of a greatest matching can be. */
     public int least(int matrix) throws IndexOutOfBoundsException, NoSuchElementException {
         Sheet sheet = sheetAt(matrix);
-        if (sheet == null) {
-            throw new IndexOutOfBoundsException();
-        }
         if (sheet.countEntries() == 0) {
             throw new NoSuchElementException();
         }
@@ -185,9 +158,6 @@ public final class SparseHall {
     /** Returns how many blocks a square matrix has. */
     public int blocks(int matrix) throws IndexOutOfBoundsException, UnsupportedOperationException {
         Sheet sheet = sheetAt(matrix);
-        if (sheet == null) {
-            throw new IndexOutOfBoundsException();
-        }
         if (!sheet.isSquare() || matching.match(sheet, 1) < sheet.rows) {
             throw new UnsupportedOperationException();
         }
@@ -198,7 +168,7 @@ public final class SparseHall {
     public int blockOf(int matrix, int row)
             throws IndexOutOfBoundsException, UnsupportedOperationException {
         Sheet sheet = sheetAt(matrix);
-        if (sheet == null || !sheet.hasRow(row)) {
+        if (!sheet.hasRow(row)) {
             throw new IndexOutOfBoundsException();
         }
         if (!sheet.isSquare() || matching.match(sheet, 1) < sheet.rows) {
@@ -213,9 +183,6 @@ public final class SparseHall {
     public int order(int matrix, char kind)
             throws IndexOutOfBoundsException, IllegalArgumentException, UnsupportedOperationException {
         Sheet sheet = sheetAt(matrix);
-        if (sheet == null) {
-            throw new IndexOutOfBoundsException();
-        }
         if (kind != 'n' && kind != 'd' && kind != 'w' && kind != 's') {
             throw new IllegalArgumentException();
         }
@@ -230,25 +197,12 @@ public final class SparseHall {
     /** Returns the index at a place of the order. */
     public int ordered(int matrix, int place)
             throws IndexOutOfBoundsException, UnsupportedOperationException {
-        Sheet sheet = sheetAt(matrix);
-        if (sheet == null || !sheet.hasRow(place)) {
-            throw new IndexOutOfBoundsException();
-        }
-        if (!sheet.isSquare()) {
-            throw new UnsupportedOperationException();
-        }
-        return sheet.order[place];
+        return squareWith(matrix, place).order[place];
     }
 
     /** Returns the most places by which two joined indices are apart in the order. */
     public int width(int matrix) throws IndexOutOfBoundsException, UnsupportedOperationException {
-        Sheet sheet = sheetAt(matrix);
-        if (sheet == null) {
-            throw new IndexOutOfBoundsException();
-        }
-        if (!sheet.isSquare()) {
-            throw new UnsupportedOperationException();
-        }
+        Sheet sheet = squareAt(matrix);
         graph.join(sheet);
         return orders.farthest(graph, sheet.order);
     }
@@ -256,81 +210,39 @@ public final class SparseHall {
     /** Returns the parent of an index, -1 for none. */
     public int parent(int matrix, int index)
             throws IndexOutOfBoundsException, UnsupportedOperationException {
-        Sheet sheet = sheetAt(matrix);
-        if (sheet == null || !sheet.hasRow(index)) {
-            throw new IndexOutOfBoundsException();
-        }
-        if (!sheet.isSquare()) {
-            throw new UnsupportedOperationException();
-        }
-        plant(sheet);
+        plant(squareWith(matrix, index));
         return tree.parents[index];
     }
 
     /** Returns the count of an index. */
     public int countOf(int matrix, int index)
             throws IndexOutOfBoundsException, UnsupportedOperationException {
-        Sheet sheet = sheetAt(matrix);
-        if (sheet == null || !sheet.hasRow(index)) {
-            throw new IndexOutOfBoundsException();
-        }
-        if (!sheet.isSquare()) {
-            throw new UnsupportedOperationException();
-        }
-        plant(sheet);
+        plant(squareWith(matrix, index));
         return tree.counts[index];
     }
 
     /** Returns how many indices are changed if an entry of an index changes. */
     public int path(int matrix, int index)
             throws IndexOutOfBoundsException, UnsupportedOperationException {
-        Sheet sheet = sheetAt(matrix);
-        if (sheet == null || !sheet.hasRow(index)) {
-            throw new IndexOutOfBoundsException();
-        }
-        if (!sheet.isSquare()) {
-            throw new UnsupportedOperationException();
-        }
-        plant(sheet);
+        plant(squareWith(matrix, index));
         return tree.countUpward(index);
     }
 
     /** Returns the fill. */
     public int fill(int matrix) throws IndexOutOfBoundsException, UnsupportedOperationException {
-        Sheet sheet = sheetAt(matrix);
-        if (sheet == null) {
-            throw new IndexOutOfBoundsException();
-        }
-        if (!sheet.isSquare()) {
-            throw new UnsupportedOperationException();
-        }
-        plant(sheet);
+        plant(squareAt(matrix));
         return tree.newPairs;
     }
 
     /** Returns how many supernodes there are. */
     public int supernodes(int matrix) throws IndexOutOfBoundsException, UnsupportedOperationException {
-        Sheet sheet = sheetAt(matrix);
-        if (sheet == null) {
-            throw new IndexOutOfBoundsException();
-        }
-        if (!sheet.isSquare()) {
-            throw new UnsupportedOperationException();
-        }
-        plant(sheet);
+        plant(squareAt(matrix));
         return tree.countSupernodes();
     }
 
     /** Returns the memory. */
     public int memory(int matrix) throws IndexOutOfBoundsException, UnsupportedOperationException {
-        Sheet sheet = sheetAt(matrix);
-        if (sheet == null) {
-            throw new IndexOutOfBoundsException();
-        }
-        if (!sheet.isSquare()) {
-            throw new UnsupportedOperationException();
-        }
-        plant(sheet);
+        plant(squareAt(matrix));
         return tree.mostCells();
     }
 
@@ -338,9 +250,6 @@ public final class SparseHall {
     public int work(int matrix, int processors)
             throws IndexOutOfBoundsException, IllegalArgumentException, UnsupportedOperationException {
         Sheet sheet = sheetAt(matrix);
-        if (sheet == null) {
-            throw new IndexOutOfBoundsException();
-        }
         if (!isWithin(processors, 1, MOST_PROCESSORS)) {
             throw new IllegalArgumentException();
         }
@@ -357,25 +266,16 @@ public final class SparseHall {
     public long determinant(int matrix)
             throws IndexOutOfBoundsException, UnsupportedOperationException, ArithmeticException {
         Sheet sheet = sheetAt(matrix);
-        if (sheet == null) {
-            throw new IndexOutOfBoundsException();
-        }
         if (!sheet.isSquare() || !sheet.isSmallEnough()) {
             throw new UnsupportedOperationException();
         }
         equations.findDeterminant(sheet);
-        if (!equations.told.isLong()) {
-            throw new ArithmeticException();
-        }
-        return equations.told.asLong();
+        return longOf(equations.told);
     }
 
     /** Returns how many decimal digits the determinant has. */
     public int digits(int matrix) throws IndexOutOfBoundsException, UnsupportedOperationException {
         Sheet sheet = sheetAt(matrix);
-        if (sheet == null) {
-            throw new IndexOutOfBoundsException();
-        }
         if (!sheet.isSquare() || !sheet.isSmallEnough()) {
             throw new UnsupportedOperationException();
         }
@@ -387,9 +287,6 @@ public final class SparseHall {
     public int modulo(int matrix, int prime)
             throws IndexOutOfBoundsException, IllegalArgumentException, UnsupportedOperationException {
         Sheet sheet = sheetAt(matrix);
-        if (sheet == null) {
-            throw new IndexOutOfBoundsException();
-        }
         if (!Table.isSmallPrime(prime)) {
             throw new IllegalArgumentException();
         }
@@ -403,9 +300,6 @@ public final class SparseHall {
     /** Returns the rank. */
     public int rank(int matrix) throws IndexOutOfBoundsException, UnsupportedOperationException {
         Sheet sheet = sheetAt(matrix);
-        if (sheet == null) {
-            throw new IndexOutOfBoundsException();
-        }
         if (!sheet.isSmallEnough()) {
             throw new UnsupportedOperationException();
         }
@@ -417,7 +311,7 @@ public final class SparseHall {
             throws IndexOutOfBoundsException, UnsupportedOperationException, NoSuchElementException,
             ArithmeticException {
         Sheet sheet = sheetAt(matrix);
-        if (sheet == null || !sheet.hasColumn(column)) {
+        if (!sheet.hasColumn(column)) {
             throw new IndexOutOfBoundsException();
         }
         if (!sheet.isSmallEnough()) {
@@ -427,10 +321,7 @@ public final class SparseHall {
             throw new NoSuchElementException();
         }
         equations.tellOfVector(column);
-        if (!equations.told.isLong()) {
-            throw new ArithmeticException();
-        }
-        return equations.told.asLong();
+        return longOf(equations.told);
     }
 
     /** Returns the numerator or the denominator of a number of an answer. */
@@ -438,7 +329,7 @@ public final class SparseHall {
             throws IndexOutOfBoundsException, IllegalArgumentException, UnsupportedOperationException,
             ArithmeticException {
         Sheet sheet = sheetAt(matrix);
-        if (sheet == null || !sheet.hasColumn(column)) {
+        if (!sheet.hasColumn(column)) {
             throw new IndexOutOfBoundsException();
         }
         if (way != 's' && way != 'l' && way != 'n') {
@@ -448,17 +339,14 @@ public final class SparseHall {
             throw new UnsupportedOperationException();
         }
         equations.tellFraction(column, isUpper);
-        if (!equations.told.isLong()) {
-            throw new ArithmeticException();
-        }
-        return equations.told.asLong();
+        return longOf(equations.told);
     }
 
     /** Returns a number of the answer of the equations modulo a prime. */
     public int answerModulo(int matrix, int column, int prime)
             throws IndexOutOfBoundsException, IllegalArgumentException, UnsupportedOperationException {
         Sheet sheet = sheetAt(matrix);
-        if (sheet == null || !sheet.hasColumn(column)) {
+        if (!sheet.hasColumn(column)) {
             throw new IndexOutOfBoundsException();
         }
         if (!Table.isSmallPrime(prime)) {
@@ -474,26 +362,20 @@ public final class SparseHall {
     public long inverse(int matrix, int row, int column, boolean isUpper)
             throws IndexOutOfBoundsException, UnsupportedOperationException, ArithmeticException {
         Sheet sheet = sheetAt(matrix);
-        if (sheet == null || !sheet.hasRow(row) || !sheet.hasColumn(column)) {
+        if (!sheet.hasRow(row) || !sheet.hasColumn(column)) {
             throw new IndexOutOfBoundsException();
         }
         if (!sheet.isSquare() || !sheet.isSmallEnough() || !equations.solveUnit(sheet, column)) {
             throw new UnsupportedOperationException();
         }
         equations.tellFraction(row, isUpper);
-        if (!equations.told.isLong()) {
-            throw new ArithmeticException();
-        }
-        return equations.told.asLong();
+        return longOf(equations.told);
     }
 
     /** Returns how many eigenvalues are greater than a number. */
     public int above(int matrix, int number)
             throws IndexOutOfBoundsException, IllegalArgumentException, UnsupportedOperationException {
         Sheet sheet = sheetAt(matrix);
-        if (sheet == null) {
-            throw new IndexOutOfBoundsException();
-        }
         if (!isWithin(number, -MOST_SHIFT, MOST_SHIFT)) {
             throw new IllegalArgumentException();
         }
@@ -508,7 +390,7 @@ public final class SparseHall {
     public int floor(int matrix, int index)
             throws IndexOutOfBoundsException, UnsupportedOperationException {
         Sheet sheet = sheetAt(matrix);
-        if (sheet == null || !sheet.hasRow(index)) {
+        if (!sheet.hasRow(index)) {
             throw new IndexOutOfBoundsException();
         }
         if (!sheet.isOwnTransposed() || !sheet.isSmallEnough()) {
@@ -521,9 +403,6 @@ public final class SparseHall {
     /** Returns after how many conjugate steps nothing is left. */
     public int steps(int matrix) throws IndexOutOfBoundsException, UnsupportedOperationException {
         Sheet sheet = sheetAt(matrix);
-        if (sheet == null) {
-            throw new IndexOutOfBoundsException();
-        }
         if (!sheet.isOwnTransposed() || !sheet.isSmallEnough() || !hasAllAboveNothing(sheet)) {
             throw new UnsupportedOperationException();
         }
@@ -536,9 +415,6 @@ public final class SparseHall {
     public int kept(int matrix, int level)
             throws IndexOutOfBoundsException, IllegalArgumentException, UnsupportedOperationException {
         Sheet sheet = sheetAt(matrix);
-        if (sheet == null) {
-            throw new IndexOutOfBoundsException();
-        }
         if (!isWithin(level, 0, MOST_LEVEL)) {
             throw new IllegalArgumentException();
         }
@@ -551,27 +427,13 @@ public final class SparseHall {
     /** Returns the number of the aggregate in which an index is. */
     public int aggregate(int matrix, int index)
             throws IndexOutOfBoundsException, UnsupportedOperationException {
-        Sheet sheet = sheetAt(matrix);
-        if (sheet == null || !sheet.hasRow(index)) {
-            throw new IndexOutOfBoundsException();
-        }
-        if (!sheet.isSquare()) {
-            throw new UnsupportedOperationException();
-        }
-        graph.join(sheet);
+        graph.join(squareWith(matrix, index));
         return patterns.aggregateOf(graph, index);
     }
 
     /** Returns how many parts of joined indices there are. */
     public int partsOf(int matrix) throws IndexOutOfBoundsException, UnsupportedOperationException {
-        Sheet sheet = sheetAt(matrix);
-        if (sheet == null) {
-            throw new IndexOutOfBoundsException();
-        }
-        if (!sheet.isSquare()) {
-            throw new UnsupportedOperationException();
-        }
-        graph.join(sheet);
+        graph.join(squareAt(matrix));
         return graph.countParts();
     }
 
@@ -580,13 +442,13 @@ public final class SparseHall {
             throws IndexOutOfBoundsException, IllegalArgumentException, UnsupportedOperationException,
             NoSuchElementException {
         Sheet sheet = sheetAt(matrix);
-        if (sheet == null || !sheet.hasRow(from) || !sheet.hasRow(to)) {
+        if (!sheet.hasRow(from) || !sheet.hasRow(to)) {
             throw new IndexOutOfBoundsException();
         }
         if (kind != '+' && kind != 'm' && kind != 'a') {
             throw new IllegalArgumentException();
         }
-        if (!sheet.isSquare() || kind == '+' && sheet.hasEntryBelowNothing()) {
+        if (!sheet.isSquare() || (kind == '+' && sheet.hasEntryBelowNothing())) {
             throw new UnsupportedOperationException();
         }
         patterns.follow(sheet, from, kind);
@@ -600,7 +462,7 @@ public final class SparseHall {
     public long walks(int matrix, int from, int to, int arcs)
             throws IndexOutOfBoundsException, IllegalArgumentException, UnsupportedOperationException {
         Sheet sheet = sheetAt(matrix);
-        if (sheet == null || !sheet.hasRow(from) || !sheet.hasRow(to)) {
+        if (!sheet.hasRow(from) || !sheet.hasRow(to)) {
             throw new IndexOutOfBoundsException();
         }
         if (!isWithin(arcs, 1, MOST_ARCS)) {
@@ -617,21 +479,12 @@ public final class SparseHall {
     /** Returns the share of the entries that are not 0. */
     public float share(int matrix) throws IndexOutOfBoundsException {
         Sheet sheet = sheetAt(matrix);
-        if (sheet == null) {
-            throw new IndexOutOfBoundsException();
-        }
         return (float) sheet.countEntries() / (float) (sheet.rows * sheet.columns);
     }
 
     /** Returns the mean count. */
     public double meanCount(int matrix) throws IndexOutOfBoundsException, UnsupportedOperationException {
-        Sheet sheet = sheetAt(matrix);
-        if (sheet == null) {
-            throw new IndexOutOfBoundsException();
-        }
-        if (!sheet.isSquare()) {
-            throw new UnsupportedOperationException();
-        }
+        Sheet sheet = squareAt(matrix);
         plant(sheet);
         return (double) tree.sumOfCounts() / (double) sheet.rows;
     }
@@ -657,7 +510,30 @@ public final class SparseHall {
     }
 
     private Sheet sheetAt(int number) {
-        return isWithin(number, 0, MOST_MATRICES - 1) ? sheets[number] : null;
+        Sheet sheet = isWithin(number, 0, MOST_MATRICES - 1) ? sheets[number] : null;
+        if (sheet == null) {
+            throw new IndexOutOfBoundsException();
+        }
+        return sheet;
+    }
+
+    private Sheet squareAt(int number) {
+        Sheet sheet = sheetAt(number);
+        if (!sheet.isSquare()) {
+            throw new UnsupportedOperationException();
+        }
+        return sheet;
+    }
+
+    private Sheet squareWith(int number, int row) {
+        Sheet sheet = sheetAt(number);
+        if (!sheet.hasRow(row)) {
+            throw new IndexOutOfBoundsException();
+        }
+        if (!sheet.isSquare()) {
+            throw new UnsupportedOperationException();
+        }
+        return sheet;
     }
 
     private int keep(Sheet sheet) {
@@ -725,6 +601,13 @@ public final class SparseHall {
         return count;
     }
 
+    private static long longOf(Amount amount) {
+        if (!amount.isLong()) {
+            throw new ArithmeticException();
+        }
+        return amount.asLong();
+    }
+
     private void plant(Sheet sheet) {
         graph.join(sheet);
         tree.eliminate(graph, sheet.order);
@@ -751,8 +634,8 @@ public final class SparseHall {
         return equations.agreesOnDeterminant(sheet, isAnswered, 2)
                 && equations.agreesOnDeterminant(sheet, isAnswered, 3)
                 && equations.agreesOnDeterminant(sheet, isAnswered, 997)
-                && (!isAnswered || equations.agreesOnAnswers(sheet, 997, false)
-                        && equations.agreesOnAnswers(sheet, 997, true));
+                && (!isAnswered || (equations.agreesOnAnswers(sheet, 997, false)
+                        && equations.agreesOnAnswers(sheet, 997, true)));
     }
 
     private boolean isLeastSound(Sheet sheet) {
@@ -1757,7 +1640,7 @@ public final class SparseHall {
                 return false;
             }
             long value = unsignedLong();
-            return value >= 0 || isBelow && value == LOWEST_LONG;
+            return value >= 0 || (isBelow && value == LOWEST_LONG);
         }
 
         /** Up to 10^19 - 1 this wraps round at most once, so that its sign tells whether it did. */

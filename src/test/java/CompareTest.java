@@ -314,7 +314,7 @@ public final class CompareTest {
         } catch (InvocationTargetException thrown) {
             Throwable cause = thrown.getCause();
             boolean isOwn = object instanceof Oracle || cause.getMessage() == null
-                    && cause.getStackTrace()[0].getMethodName().equals(name);
+                    && cause.getStackTrace()[0].getClassName().equals("SparseHall");
             return isOwn ? cause.getClass() : "the machine's " + cause;
         } catch (IllegalAccessException closed) {
             throw new AssertionError(closed);
