@@ -45,8 +45,8 @@ public final class TermsTest {
         ledger.sentence("What it is", "An object is used for at most 512 calls");
         ledger.with(Halls.told("2 1 / 1 2 | 3 0"));
         ledger.taken("3 2 3 true", x -> {
-            // seven calls made the hall, and four are to come
-            for (int call = 7; call < 508; call++) {
+            // seven calls made the hall, and five come behind these: the last one is the 512th
+            for (int call = 7; call < 507; call++) {
                 x.set(0, 0, 1, call % 7);
             }
             x.set(0, 0, 1, 1);
