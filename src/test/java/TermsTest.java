@@ -395,6 +395,9 @@ public final class TermsTest {
         // 2 has 14, 0 and 1 have 13 each: by counts and not by their squares, 2 would be the last one
         ledger.with(() -> Halls.joined(6, 0, 3, 1, 3, 2, 4, 2, 5, 3, 4, 4, 5));
         ledger.taken(17, x -> x.work(0, 2));
+        // 6 has 14, up to 8, the last one of the order, and goes ahead of 0 with 13
+        ledger.with(() -> Halls.joined(9, 0, 3, 2, 3, 2, 4, 3, 4, 4, 5, 6, 7, 6, 8));
+        ledger.taken(22, x -> x.work(0, 2));
         // two ways of two beside each other
         ledger.with(() -> Halls.joined(4, 0, 1, 2, 3));
         ledger.taken(5, x -> x.work(0, 2));
